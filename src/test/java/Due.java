@@ -56,6 +56,6 @@ final class Due {
             }
             all.append(x.chain(i));
         }
-        return all.append("| ").append(x.fault()).append(' ').append(x.pairs()).toString();
+        return all.append("| ").append(x.pairs()).toString();
     }
 }
