@@ -103,6 +103,17 @@ final class EveningTest {
         x.ask(1, 3);
         DUE.is("17 each holds the other", x.tonight(0), 15);
 
+        ThirdEvening z = shyOnes(1, 5);
+        z.person(0, 0, 8, false);
+        z.friend(0, 1);
+        DUE.is("17 3 more are 1", z.tonight(0), 3);
+        z = shyOnes(1, 8);
+        z.person(3, 0, 8, false);
+        z.friend(0, 1);
+        DUE.is("17 6 more are 1", z.tonight(0), 3);
+        z.ask(1, 9);
+        DUE.is("17 6 more are 0", z.tonight(0), 2);
+
         int[] holds = {0, 0, 0, 1, 0, 0, 1};
         for (int kind = 0; kind < 7; kind++) {
             ThirdEvening y = new ThirdEvening();

@@ -93,9 +93,14 @@ final class FriendsTest {
         DUE.is("29 no such below", x.keeps(-1), -1);
         DUE.is("29 counted", x.status(11) * 10 + x.status(16), 21);
         DUE.is("29 nothing is changed", x.status(6), 1);
-        x.ask(1, 9);
         x.person(5, 0, 8, false);
         DUE.is("29 one who doesn't come", x.keeps(5), 0);
+        ThirdEvening y = people(2, 9, 3);
+        y.friend(1, 0);
+        y.ask(1, 3);
+        DUE.is("29 nobody is rung up", y.keeps(0) * 10 + y.keeps(2), 0);
+        Due.ints(y, 0, 0, 0);
+        DUE.is("32 nobody is rung up", y.judge(0, 2), -1);
     }
 
     private static void keep() {

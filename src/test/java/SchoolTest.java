@@ -74,8 +74,10 @@ final class SchoolTest {
             DUE.is("11 it is", x.status(what + 1), least[what]);
         }
         DUE.is("11 no such", x.ask(4, 1), -6);
+        DUE.is("11 no such with 0", x.ask(4, 0), -6);
         DUE.is("11 no such below", x.ask(-1, 1), -6);
-        DUE.is("11 counted", x.status(16), 10);
+        DUE.is("11 no such below with 0", x.ask(-1, 0), -6);
+        DUE.is("11 counted", x.status(16), 12);
     }
 
     private static void go() {
@@ -241,6 +243,11 @@ final class SchoolTest {
         fault("gone 01", -1);
         fault("gone 2", 5);
         fault("gone 10", 5);
+        fault("gone 2;x", 5);
+        fault("friend 0 2;x", 9);
+        fault("friend 1 1;x", 9);
+        fault("level 21;x", 6);
+        fault("person 0 0 21 0;x", 11);
         fault("friend 2 0", 7);
         fault("friend 0 2", 9);
         fault("friend 1 1", 9);
