@@ -1075,7 +1075,7 @@ public final class ThirdEvening {
         private int readWord() {
             int word = NONE;
             for (int i = 0; i < WORDS; i++) {
-                if (isSign(wordOf(i).charAt(0))) {
+                if (letter() == wordOf(i).charAt(0)) {
                     word = i;
                 }
             }
@@ -1176,7 +1176,7 @@ public final class ThirdEvening {
         }
 
         private boolean isDigit() {
-            return at < length && letter() >= '0' && letter() <= '9';
+            return letter() >= '0' && letter() <= '9';
         }
 
         private int readDigit() {
@@ -1185,20 +1185,17 @@ public final class ThirdEvening {
             return digit;
         }
 
-        private boolean isSign(int sign) {
-            return at < length && letter() == sign;
-        }
-
         private boolean readSign(int sign) {
-            if (!isSign(sign)) {
+            if (letter() != sign) {
                 return fail(at);
             }
             at++;
             return true;
         }
 
+        // NONE behind the end: no sign that is asked for is below 0.
         private int letter() {
-            return at >= 0 && at < letters.length ? letters[at] : NONE;
+            return at >= 0 && at < length && at < letters.length ? letters[at] : NONE;
         }
 
         private boolean fail(int place) {
