@@ -1,6 +1,8 @@
-/** Counts and prints the answers that are not as due, and ends a test with them. */
+/** Counts and prints the answers that are not as due, under the sentence of the document that asks for them. */
 final class Due {
     private final String test;
+    private String sentence = "";
+    private int sinceSentence = 1;
     private int asked;
     private int wrong;
 
@@ -8,11 +10,29 @@ final class Due {
         this.test = test;
     }
 
+    /**
+     * What is asked from here on is asked by these words of the document, which stand in its part called place.
+     * SentencesTest looks whether they do, and whether any words of the document are left without a test.
+     */
+    void of(String place, String words) {
+        endSentence();
+        sentence = ", " + place + ", \"" + words + "\"";
+        sinceSentence = 0;
+    }
+
     void is(String call, long got, long want) {
         asked++;
+        sinceSentence++;
         if (got != want) {
             wrong++;
-            System.out.println(test + ": " + call + " answered " + got + ", due is " + want);
+            System.out.println(test + sentence + ": " + call + " answered " + got + ", due is " + want);
+        }
+    }
+
+    void same(String what, String got, String want) {
+        is(what, got.equals(want) ? 1 : 0, 1);
+        if (!got.equals(want)) {
+            System.out.println("  it is   " + got + "\n  due is  " + want);
         }
     }
 
@@ -21,41 +41,17 @@ final class Due {
     }
 
     void end() {
+        endSentence();
         System.out.println(test + ": " + asked + " answers, " + wrong + " not as due");
         if (wrong != 0 || asked == 0) {
             System.exit(1);
         }
     }
 
-    /** Puts a text into a new ROW of a SHELF. */
-    static void text(ThirdEvening x, int s, int sort, String text) {
-        x.row(s, sort, text.length());
-        for (int i = 0; i < text.length(); i++) {
-            x.set(s, i, text.charAt(i));
+    private void endSentence() {
+        if (sinceSentence == 0) {
+            wrong++;
+            System.out.println(test + sentence + ": nothing is asked by it");
         }
-    }
-
-    /** Puts numbers into a new ROW of ints. */
-    static void ints(ThirdEvening x, int s, int... numbers) {
-        x.row(s, 2, numbers.length);
-        for (int i = 0; i < numbers.length; i++) {
-            x.set(s, i, numbers[i]);
-        }
-    }
-
-    /** All that can be asked without a change, but for SHELVES, as one text. */
-    static String state(ThirdEvening x) {
-        StringBuilder all = new StringBuilder();
-        for (int what = 0; what <= 8; what++) {
-            all.append(x.status(what)).append(' ');
-        }
-        for (int i = 0; i < x.status(0); i++) {
-            all.append("| ");
-            for (int what = 0; what <= 7; what++) {
-                all.append(x.personOf(i, what)).append(' ');
-            }
-            all.append(x.chain(i));
-        }
-        return all.append("| ").append(x.pairs()).toString();
     }
 }

@@ -1,68 +1,71 @@
-/** Promises 27 to 32: who is whose friend, who holds whom, told REGISTERS. */
+/** Promises 27 to 32: who is whose friend, who holds whom, told REGISTERS. What is refused is in RefusalsTest. */
 final class FriendsTest {
     private static final Due DUE = new Due("FriendsTest");
+    private static final String OUTCOME = "WHAT COMES OF IT";
 
     public static void main(String[] args) {
         pairs();
         chain();
+        holdsOthers();
         keeps();
         keep();
         friends();
-        friendsByLongs();
-        friendsRefused();
+        friendsOfAll();
+        friendsOfNoneAndTheMost();
         judge();
-        judgeRefused();
+        judgeOfNoneAndTheMost();
+        judgeOfWhoIsSeated();
         DUE.end();
     }
 
-    private static ThirdEvening people(int kind, int a, int count) {
-        ThirdEvening x = new ThirdEvening();
-        for (int i = 0; i < count; i++) {
-            x.person(kind, a, 8, false);
-        }
-        return x;
-    }
-
     private static void pairs() {
-        ThirdEvening x = people(0, 0, 6);
-        DUE.is("27 none", x.pairs(), 0);
+        ThirdEvening x = Given.people(0, 0, 10);
+        DUE.of("Promise 27", "How many pairs of PEOPLE are each other's FRIEND");
+        DUE.is("pairs() of nobody", new ThirdEvening().pairs(), 0);
+        DUE.is("pairs() without FRIENDS", x.pairs(), 0);
         x.friend(0, 1);
-        DUE.is("27 one sided", x.pairs(), 0);
+        DUE.is("pairs(), one sided", x.pairs(), 0);
         x.friend(1, 0);
-        DUE.is("27 one", x.pairs(), 1);
+        DUE.is("pairs()", x.pairs(), 1);
         x.friend(2, 3);
         x.friend(3, 4);
         x.friend(4, 2);
-        DUE.is("27 a round of three is none", x.pairs(), 1);
-        x.friend(4, 5);
-        x.friend(5, 4);
-        DUE.is("27 two", x.pairs(), 2);
-        x.go(4, true);
-        DUE.is("27 gone or not", x.pairs(), 2);
-        x.friend(0, -1);
-        DUE.is("27 one again", x.pairs(), 1);
-        DUE.is("27 nobody", new ThirdEvening().pairs(), 0);
+        DUE.is("pairs() and a round of three", x.pairs(), 1);
+        for (int i = 2; i < 10; i += 2) {
+            x.friend(i + 1, i);
+            x.friend(i, i + 1);
+        }
+        DUE.is("pairs(), the most", x.pairs(), 5);
+        x.go(8, true);
+        x.go(9, true);
+        DUE.is("pairs(), GONE or not", x.pairs(), 5);
+        x.friend(9, -1);
+        DUE.is("pairs(), one less", x.pairs(), 4);
     }
 
     private static void chain() {
-        ThirdEvening x = people(0, 0, 10);
-        DUE.is("28 no friend", x.chain(0), 0);
+        ThirdEvening x = Given.people(0, 0, 10);
+        DUE.of("Promise 28", "How many others one comes to by his FRIEND, that one's FRIEND, and so on");
+        DUE.is("chain(0) without a FRIEND", x.chain(0), 0);
         for (int i = 0; i < 9; i++) {
             x.friend(i, i + 1);
         }
         for (int i = 0; i < 10; i++) {
-            DUE.is("28 to the end", x.chain(i), 9 - i);
+            DUE.is("chain(" + i + ") to the end", x.chain(i), 9 - i);
         }
         x.friend(9, 0);
-        DUE.is("28 all round", x.chain(4), 9);
+        for (int i = 0; i < 10; i++) {
+            DUE.is("chain(" + i + ") all round", x.chain(i), 9);
+        }
         x.friend(9, 7);
-        DUE.is("28 into a round", x.chain(5), 4);
-        DUE.is("28 in the round", x.chain(8), 2);
+        DUE.is("chain(0) into a round", x.chain(0), 9);
+        DUE.is("chain(5) into a round", x.chain(5), 4);
+        DUE.is("chain(8) in the round", x.chain(8), 2);
         x.go(8, true);
-        DUE.is("28 gone or not", x.chain(8), 2);
-        DUE.is("28 no such", x.chain(10), -1);
-        DUE.is("28 no such below", x.chain(-1), -1);
-        DUE.is("28 counted", x.status(11), 2);
+        DUE.is("chain(8), GONE or not", x.chain(8), 2);
+        x.friend(9, 8);
+        DUE.is("chain(9) of a pair", x.chain(9), 1);
+        DUE.is("chain(7) into a pair", x.chain(7), 2);
     }
 
     // Number 0 comes by himself, 1 by 0, 2 by 1, 3 by 2; number 4 by himself.
@@ -78,152 +81,205 @@ final class FriendsTest {
         return x;
     }
 
-    private static void keeps() {
+    private static void holdsOthers() {
+        DUE.of(OUTCOME, "HOLDS of one: how many others less were COMING now, if he were GONE");
         ThirdEvening x = held();
         int[] holds = {3, 2, 1, 0, 0};
         for (int i = 0; i < 5; i++) {
-            DUE.is("29 holds", x.keeps(i), holds[i]);
+            DUE.is("keeps(" + i + ")", x.keeps(i), holds[i]);
         }
         x.ask(2, 1);
-        DUE.is("29 of those coming, not of those seated", x.keeps(0), 3);
+        DUE.is("keeps(0), of those COMING, not of those SEATED", x.keeps(0), 3);
         x.go(2, true);
-        DUE.is("29 holds less", x.keeps(0), 1);
-        DUE.is("29 gone", x.keeps(2), -6);
-        DUE.is("29 no such", x.keeps(5), -1);
-        DUE.is("29 no such below", x.keeps(-1), -1);
-        DUE.is("29 counted", x.status(11) * 10 + x.status(16), 21);
-        DUE.is("29 nothing is changed", x.status(6), 1);
+        DUE.is("keeps(0), one of them GONE", x.keeps(0), 1);
         x.person(5, 0, 8, false);
-        DUE.is("29 one who doesn't come", x.keeps(5), 0);
-        ThirdEvening y = people(2, 9, 3);
-        y.friend(1, 0);
-        y.ask(1, 3);
-        DUE.is("29 nobody is rung up", y.keeps(0) * 10 + y.keeps(2), 0);
-        Due.ints(y, 0, 0, 0);
-        DUE.is("32 nobody is rung up", y.judge(0, 2), -1);
+        DUE.is("keeps(5) of one who doesn't come", x.keeps(5), 0);
+        // All nine others need number 9.
+        ThirdEvening ten = Given.shy(9, 3);
+        ten.person(0, 0, 8, false);
+        for (int i = 0; i < 9; i++) {
+            ten.friend(i, 9);
+        }
+        DUE.is("keeps(9), the most", ten.keeps(9), 9);
+        DUE.is("keeps(0)", ten.keeps(0), 0);
+        // Nobody is drawn, so that nobody holds.
+        ThirdEvening none = Given.shy(3, 3);
+        none.friend(1, 0);
+        DUE.is("keeps(0) where nobody comes", none.keeps(0), 0);
+        // Whoever holds by what he would be RUNG up for holds nobody now.
+        DUE.is("ring(1, 1)", none.ring(1, 1), 2);
+        DUE.is("keeps(0) behind ring()", none.keeps(0), 0);
+    }
+
+    private static void keeps() {
+        DUE.of("Promise 29", "HOLDS.");
+        ThirdEvening one = Given.people(0, 0, 1);
+        DUE.is("keeps(0) of one alone", one.keeps(0), 0);
+        // A TWIN's FRIEND holds him, even if he needs no more to be drawn.
+        ThirdEvening twins = Given.people(6, 0, 2);
+        twins.friend(0, 1);
+        twins.friend(1, 0);
+        DUE.is("keeps(0) of twins", twins.keeps(0), 1);
+        DUE.is("keeps(1) of twins", twins.keeps(1), 1);
+        DUE.of("Promise 29", "-6 he is GONE");
+        one.go(0, true);
+        DUE.is("keeps(0)", one.keeps(0), -6);
+        one.go(0, false);
+        DUE.is("keeps(0), GONE no more", one.keeps(0), 0);
     }
 
     private static void keep() {
+        DUE.of(OUTCOME, "KEEP: who HOLDS most (not GONE), of several the first");
         ThirdEvening x = held();
-        DUE.is("30 keep", x.keep(), 0);
+        DUE.is("keep()", x.keep(), 0);
         x.friend(4, 3);
         x.go(0, true);
         x.ask(1, 0);
-        DUE.is("30 all come alone: the first not gone", x.keep(), 1);
+        DUE.is("keep(), all come by themselves", x.keep(), 1);
         x.friend(3, 4);
         x.ask(1, 3);
-        DUE.is("30 the last holds the third", x.keep(), 4);
-        for (int i = 1; i < 5; i++) {
+        DUE.is("keep(), the last holds the third", x.keep(), 4);
+        x.go(0, false);
+        DUE.is("keep(), the first holds two", x.keep(), 0);
+        DUE.of(OUTCOME, "NONE: all are");
+        for (int i = 0; i < 4; i++) {
             x.go(i, true);
         }
-        DUE.is("30 all are gone", x.keep(), -1);
-        DUE.is("30 nobody", new ThirdEvening().keep(), -1);
-        DUE.is("30 nothing is refused", x.status(16), 0);
+        DUE.is("keep() of one, who holds nobody", x.keep(), 4);
+        x.go(4, true);
+        DUE.is("keep(), all GONE", x.keep(), -1);
+        DUE.of("Promise 30", "KEEP; NONE");
+        x.go(3, false);
+        DUE.is("keep() of one", x.keep(), 3);
+        DUE.is("keep() of nobody", new ThirdEvening().keep(), -1);
+        DUE.same("REFUSALS", Given.refusals(x), "0 0 0 0 0 0 0 ");
     }
 
     private static void friends() {
+        DUE.of(OUTCOME, "FRIENDS of one by a told REGISTER (a ROW of bits, the i-th who is SEATED on the i-th EVENING from now on)");
         ThirdEvening x = held();
         x.friend(1, -1);
         x.friend(2, -1);
         x.friend(3, -1);
-        Due.ints(x, 0, 19, 19, 17, 17);
-        // SHY number 1 comes only by 0 or 4, who come by themselves
-        DUE.is("31 none told", x.friends(0, 0, 1), 61);
-        DUE.is("31 by one who comes", x.friends(0, 1, 1), 17);
-        DUE.is("31 nothing is changed", x.friend(1, -1), -1);
-        Due.ints(x, 1, 17, 17, 17);
-        DUE.is("31 by nobody, or one who doesn't come", x.friends(1, 3, 1), 44);
-        Due.ints(x, 2, 17, 16);
-        DUE.is("31 can't be", x.friends(2, 2, 1), 0);
-        DUE.is("31 ahead of that", x.friends(2, 1, 1), 44);
+        // SHY number 1 comes only by 0 or 4, who come by themselves, till his OWN is 10
+        Given.ints(x, 0, 19, 19, 17, 17);
+        DUE.is("friends by one who comes", x.friends(0, 1, 1), 17);
+        DUE.is("friends by his second EVENING", x.friends(0, 2, 1), 17);
+        DUE.is("friends by one EVENING too many", x.friends(0, 3, 1), 0);
+        x.set(0, 2, 19);
+        DUE.is("friends by all he comes to", x.friends(0, 3, 1), 17);
+        Given.ints(x, 1, 17, 17, 17);
+        DUE.is("friends by nobody, or one who doesn't come", x.friends(1, 3, 1), 32 + 12);
+        Given.ints(x, 2, 17, 16);
+        DUE.is("friends by what can't be", x.friends(2, 2, 1), 0);
+        DUE.is("friends ahead of that", x.friends(2, 1, 1), 32 + 12);
         x.friend(1, 0);
-        DUE.is("31 whoever it is now", x.friends(1, 3, 1), 44);
+        DUE.is("friends, whoever it is now", x.friends(1, 3, 1), 32 + 12);
+        DUE.is("his FRIEND is as he was", x.friend(1, 0), 0);
         x.go(0, true);
-        Due.ints(x, 3, 16);
-        DUE.is("31 one gone may be", x.friends(3, 1, 1), 45);
-        int[] most = new int[26];
-        java.util.Arrays.fill(most, 16);
-        Due.ints(x, 4, most);
-        DUE.is("31 the most", x.friends(4, 24, 1), 45);
+        Given.ints(x, 3, 16);
+        DUE.is("friends, one who is GONE among them", x.friends(3, 1, 1), 32 + 13);
     }
 
-    private static void friendsByLongs() {
-        ThirdEvening x = people(0, 0, 2);
-        x.row(0, 3, 1);
-        x.set(0, 0, (1L << 40) + 3);
-        DUE.is("31 the lowest 32 bits of longs", x.friends(0, 1, 0), 6);
-        DUE.is("32 the lowest 32 bits of longs", x.judge(0, 1), -1);
-        x.set(0, 0, (1L << 31) + 3);
-        DUE.is("31 not the lowest 16", x.friends(0, 1, 0), 0);
-        DUE.is("32 not the lowest 16", x.judge(0, 1), 0);
-        for (int i = 2; i < 10; i++) {
-            x.person(0, 0, 8, false);
+    private static void friendsOfAll() {
+        DUE.of(OUTCOME, "PEOPLE (bits) who may be his FRIEND, and 2 to the number of all PEOPLE, if he may have none");
+        for (int count = 1; count <= 10; count++) {
+            ThirdEvening x = Given.people(0, 0, count);
+            x.ask(2, 12);
+            Given.ints(x, 0, (1 << count) - 1);
+            for (int i = 0; i < count; i++) {
+                DUE.is("friends of " + i + " of " + count, x.friends(0, 1, i), (1 << count + 1) - 1 - (1 << i));
+            }
         }
-        x.ask(2, 12);
-        x.row(1, 0, 1);
-        x.set(1, 0, 1023);
-        DUE.is("32 bytes can't tell of ten", x.judge(1, 1), 0);
-        x.row(1, 1, 1);
-        x.set(1, 0, 1023);
-        DUE.is("32 shorts can", x.judge(1, 1), -1);
-        DUE.is("31 of ten", x.friends(1, 1, 9), 511 + 1024);
+        // A TWIN who comes may have none, or one who comes; one who doesn't can't have none.
+        ThirdEvening x = Given.people(6, 0, 1);
+        x.person(0, 0, 8, false);
+        x.person(5, 0, 8, false);
+        Given.ints(x, 0, 3);
+        DUE.is("friends of a TWIN who comes", x.friends(0, 1, 0), 8 + 2);
+        Given.ints(x, 0, 2);
+        DUE.is("friends of a TWIN who doesn't", x.friends(0, 1, 0), 4);
     }
 
-    private static void friendsRefused() {
-        ThirdEvening x = people(0, 0, 2);
-        x.show(1, 0);
-        x.row(0, 2, 2);
-        x.row(3, 2, 30);
-        DUE.is("31 no shelf", x.friends(8, -1, 0), -1);
-        DUE.is("31 no person", x.friends(1, -1, 2), -1);
-        DUE.is("31 no person below", x.friends(0, 1, -1), -1);
-        DUE.is("31 a person there", x.friends(1, -1, 0), -2);
-        DUE.is("31 nothing there", x.friends(2, -1, 0), -3);
-        DUE.is("31 below", x.friends(0, -1, 0), -4);
-        DUE.is("31 fewer elements", x.friends(0, 3, 0), -5);
-        DUE.is("31 fewer, and too many", x.friends(0, 25, 0), -5);
-        DUE.is("31 too many", x.friends(3, 25, 0), -6);
-        DUE.is("31 counted", x.status(11) * 10000 + x.status(12) * 1000 + x.status(13) * 100 + x.status(14) * 10
-            + x.status(15), 31112);
-        DUE.is("31 counted too many", x.status(16), 1);
+    private static void friendsOfNoneAndTheMost() {
+        DUE.of("Promise 31", "FRIENDS of one by the first n elements (0 to 24) of the ROW in SHELF s");
+        ThirdEvening x = Given.people(0, 0, 2);
+        x.row(0, 2, 0);
+        DUE.is("friends(0, 0, 1) of no elements", x.friends(0, 0, 1), 4 + 1);
+        Given.ints(x, 1, 99, 99);
+        DUE.is("friends(1, 0, 1) of none of two", x.friends(1, 0, 1), 4 + 1);
+        DUE.is("friends(1, 1, 1)", x.friends(1, 1, 1), 0);
+        Given.times(x, 2, 24, 3);
+        DUE.is("friends(2, 24, 1) of 24", x.friends(2, 24, 1), 4 + 1);
+        DUE.is("friends(2, 25, 1) of 24", x.friends(2, 25, 1), -5);
+        x.set(2, 23, 2);
+        DUE.is("friends(2, 24, 1), the last not so", x.friends(2, 24, 1), 0);
+        DUE.is("friends(2, 23, 1) ahead of it", x.friends(2, 23, 1), 4 + 1);
+        Given.times(x, 3, 25, 3);
+        DUE.is("friends(3, 24, 1) of 25", x.friends(3, 24, 1), 4 + 1);
+        DUE.is("friends(3, 25, 1) of 25", x.friends(3, 25, 1), -6);
     }
 
     private static void judge() {
+        DUE.of(OUTCOME, "A told REGISTER is WRONG at the first element that isn't so; NONE");
         ThirdEvening x = new ThirdEvening();
         x.person(5, 0, 8, false);
         x.person(0, 0, 8, false);
-        Due.ints(x, 0, 2, 3, 2, 3, 3);
-        DUE.is("32 so", x.judge(0, 4), -1);
-        DUE.is("32 not so", x.judge(0, 5), 4);
-        DUE.is("32 none told", x.judge(0, 0), -1);
-        x.set(0, 1, 2);
+        Given.ints(x, 0, 2, 3, 2, 3, 3);
+        DUE.is("judge(0, 4)", x.judge(0, 4), -1);
+        DUE.is("judge(0, 5)", x.judge(0, 5), 4);
         x.set(0, 3, 1);
-        DUE.is("32 the first", x.judge(0, 5), 1);
-        DUE.is("32 ahead of it", x.judge(0, 1), -1);
-        DUE.is("32 nothing is changed", x.status(5), 0);
+        DUE.is("judge(0, 5), two not so", x.judge(0, 5), 3);
+        x.set(0, 0, 3);
+        DUE.is("judge(0, 5), the first of all not so", x.judge(0, 5), 0);
+        x.set(0, 0, 2 + 4);
+        DUE.is("judge(0, 5), one more than there is", x.judge(0, 5), 0);
+        x.set(0, 0, -1);
+        DUE.is("judge(0, 5), all bits", x.judge(0, 5), 0);
         x.evenings(1);
-        DUE.is("32 from now on", x.judge(0, 1), 0);
-        x.ask(2, 1);
-        Due.ints(x, 1, 1, 2);
-        DUE.is("32 who is seated, not who comes", x.judge(1, 2), -1);
+        Given.ints(x, 0, 3, 2, 3);
+        DUE.is("judge(0, 3) from now on", x.judge(0, 3), -1);
     }
 
-    private static void judgeRefused() {
-        ThirdEvening x = people(0, 0, 2);
-        x.show(1, 0);
-        x.row(0, 2, 2);
-        x.row(3, 2, 30);
-        DUE.is("32 no shelf", x.judge(8, -1), -11);
-        DUE.is("32 no shelf below", x.judge(-1, 0), -11);
-        DUE.is("32 a person there", x.judge(1, -1), -12);
-        DUE.is("32 nothing there", x.judge(2, -1), -13);
-        DUE.is("32 below", x.judge(0, -1), -14);
-        DUE.is("32 fewer elements", x.judge(0, 3), -15);
-        DUE.is("32 fewer, and too many", x.judge(0, 25), -15);
-        DUE.is("32 too many", x.judge(3, 25), -16);
-        DUE.is("32 the most", x.judge(3, 24), 0);
-        DUE.is("32 counted", x.status(11) * 10000 + x.status(12) * 1000 + x.status(13) * 100 + x.status(14) * 10
-            + x.status(15), 21112);
-        DUE.is("32 counted too many", x.status(16), 1);
+    private static void judgeOfNoneAndTheMost() {
+        DUE.of("Promise 32", "WRONG of a told REGISTER, the first n elements (0 to 24) of the ROW in SHELF s; NONE");
+        ThirdEvening x = Given.people(0, 0, 2);
+        x.row(0, 2, 0);
+        DUE.is("judge(0, 0) of no elements", x.judge(0, 0), -1);
+        DUE.is("judge(0, 1) of no elements", x.judge(0, 1), -15);
+        Given.ints(x, 1, 99, 99);
+        DUE.is("judge(1, 0) of none of two", x.judge(1, 0), -1);
+        DUE.is("judge(1, 1)", x.judge(1, 1), 0);
+        Given.times(x, 2, 24, 3);
+        DUE.is("judge(2, 24) of 24", x.judge(2, 24), -1);
+        DUE.is("judge(2, 25) of 24", x.judge(2, 25), -15);
+        x.set(2, 23, 2);
+        DUE.is("judge(2, 24), the last not so", x.judge(2, 24), 23);
+        DUE.is("judge(2, 23) ahead of it", x.judge(2, 23), -1);
+        Given.times(x, 3, 160, 3);
+        DUE.is("judge(3, 24) of the most elements", x.judge(3, 24), -1);
+        DUE.is("judge(3, 25) of the most elements", x.judge(3, 25), -16);
+        ThirdEvening nobody = new ThirdEvening();
+        Given.times(nobody, 0, 24, 0);
+        DUE.is("judge(0, 24) of nobody", nobody.judge(0, 24), -1);
+    }
+
+    private static void judgeOfWhoIsSeated() {
+        DUE.of(OUTCOME, "(a ROW of bits, the i-th who is SEATED on the i-th EVENING from now on)");
+        // One CHAIR: the FAN has it whenever he comes, and number 1 is TURNED away then, but never twice on end.
+        ThirdEvening x = new ThirdEvening();
+        x.person(5, 0, 8, false);
+        x.person(0, 0, 8, false);
+        x.ask(2, 1);
+        Given.ints(x, 0, 2, 1, 2, 1, 2);
+        DUE.is("judge(0, 5)", x.judge(0, 5), -1);
+        Given.ints(x, 0, 2, 3);
+        DUE.is("judge(0, 2) of who comes", x.judge(0, 2), 1);
+        Given.ints(x, 0, 2, 2);
+        DUE.is("judge(0, 2) of who is TURNED away", x.judge(0, 2), 1);
+        ThirdEvening ten = Given.people(0, 0, 10);
+        ten.ask(2, 12);
+        Given.ints(ten, 0, 1023, 1023);
+        DUE.is("judge(0, 2) of ten", ten.judge(0, 2), -1);
     }
 }

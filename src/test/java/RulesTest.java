@@ -64,48 +64,57 @@ final class RulesTest {
             publicNames.add(one.substring(0, one.indexOf('(')));
         }
         Class<?>[] inside = ThirdEvening.class.getDeclaredClasses();
-        has("rule 11, classes", inside.length < 12);
+        has("rule 11, classes", inside.length <= 14);
         for (Class<?> c : inside) {
             has("rule 2, static: " + c, Modifier.isStatic(c.getModifiers()) && !Modifier.isPublic(c.getModifiers()));
-            int fields = 0;
-            for (Field f : c.getDeclaredFields()) {
-                boolean constant = Modifier.isStatic(f.getModifiers());
-                fields += constant ? 0 : 1;
-                has("rule 5, final: " + f, !constant || Modifier.isFinal(f.getModifiers()));
-            }
-            has("rule 11, fields of " + c, fields <= 20);
-            for (Method m : c.getDeclaredMethods()) {
-                has("rule 1, name of " + m, !publicNames.contains(m.getName()));
-                has("rule 11, parameters of " + m, m.getParameterCount() <= 7);
-            }
+            membersOf(c, publicNames);
         }
-        for (Method m : ThirdEvening.class.getDeclaredMethods()) {
-            has("rule 1, name of " + m, Modifier.isPublic(m.getModifiers()) || !publicNames.contains(m.getName()));
+        membersOf(ThirdEvening.class, publicNames);
+    }
+
+    private static void membersOf(Class<?> c, Set<String> publicNames) {
+        int fields = 0;
+        for (Field f : c.getDeclaredFields()) {
+            boolean constant = Modifier.isStatic(f.getModifiers());
+            fields += constant ? 0 : 1;
+            has("rule 5, final: " + f, !constant || Modifier.isFinal(f.getModifiers()));
+        }
+        has("rule 11, fields of " + c, fields <= 24);
+        for (Method m : c.getDeclaredMethods()) {
+            has("rule 1, name of " + m, !Modifier.isPrivate(m.getModifiers()) || !publicNames.contains(m.getName()));
+            has("rule 11, parameters of " + m, m.getParameterCount() <= 7);
         }
     }
 
     private static void words(String source) {
         String plain = source.replaceAll("(?s)/\\*.*?\\*/", "").replaceAll("//[^\n]*", "")
             .replaceAll("\"[^\"\n]*\"", "TEXT").replaceAll("'[^'\n]*'", "SIGN");
-        String[] never = {"throw", "throws", "try", "catch", "finally", "synchronized", "assert", "package", "var", "Object",
-            "record", "enum", "Exception", "hashCode", "equals", "native", "volatile", "transient", "strictfp", "instanceof"};
+        String[] never = {"throw", "throws", "try", "catch", "finally", "synchronized", "assert", "package", "Object",
+            "Thread", "Exception", "hashCode", "native", "volatile", "transient", "strictfp"};
         for (String word : never) {
-            has("rule 6, no " + word, !Pattern.compile("\\b" + word + "\\b").matcher(plain).find());
+            has("rules 3, 6 and 13, no " + word, !Pattern.compile("\\b" + word + "\\b").matcher(plain).find());
         }
-        has("rule 2, no lambda", !plain.contains("->") && !plain.contains("::"));
+        has("rule 2, no lambda, no method reference", !plain.replaceAll("(case [^;{}]*|default) ->", "").contains("->")
+            && !plain.contains("::"));
         has("rule 5, no static block", !Pattern.compile("static\\s*\\{").matcher(plain).find());
-        has("rule 4, no @", !plain.contains("@"));
+        has("rule 3, no joining of texts by +", !plain.contains("TEXT +") && !plain.contains("+ TEXT"));
+        library(plain);
+        methodsAreShort(plain);
+    }
+
+    private static void library(String plain) {
         Matcher imports = Pattern.compile("import\\s+([^;]+);").matcher(plain);
         while (imports.find()) {
-            has("rule 4, import " + imports.group(1), imports.group(1).equals("java.util.Arrays"));
+            has("rule 4, import " + imports.group(1), imports.group(1).matches("java\\.util\\.(\\*|Arrays|ArrayList|List|Iterator)"));
         }
-        Matcher library = Pattern.compile("\\b(System|Arrays|Math|Integer|Long|String)\\.(\\w+)").matcher(plain);
-        Set<String> may = Set.of("System.arraycopy", "Arrays.fill", "Math.abs", "Math.min", "Math.max", "Integer.bitCount");
-        while (library.find()) {
-            has("rule 4, " + library.group(), may.contains(library.group()));
+        Matcher calls = Pattern.compile("\\b(System|Arrays|Math|Integer|Long)\\.(\\w+)").matcher(plain);
+        while (calls.find()) {
+            String name = calls.group(2);
+            boolean may = calls.group(1).equals("System") ? name.equals("arraycopy")
+                : calls.group(1).equals("Arrays") ? Set.of("copyOf", "copyOfRange", "fill").contains(name)
+                : !name.endsWith("Exact") && !name.equals("random");
+            has("rule 4, " + calls.group(), may);
         }
-        has("rule 3, no joining of texts by +", !plain.contains("TEXT +") && !plain.contains("+ TEXT"));
-        methodsAreShort(plain);
     }
 
     private static void methodsAreShort(String plain) {
@@ -116,7 +125,7 @@ final class RulesTest {
                 since = i;
             }
             if (since >= 0 && lines[i].matches(" {4}( {4})?\\}")) {
-                has("rule 11, " + lines[since].trim() + " has " + (i - since), i - since <= 60);
+                has("rule 11, " + lines[since].trim() + " has " + (i - since), i - since <= 70);
                 since = -1;
             }
         }
