@@ -199,6 +199,8 @@ final class FriendsTest {
         DUE.is("friends of a TWIN who comes", x.friends(0, 1, 0), 8 + 2);
         Given.ints(x, 0, 2);
         DUE.is("friends of a TWIN who doesn't", x.friends(0, 1, 0), 4);
+        x.go(0, true);
+        DUE.is("friends of a TWIN who is GONE", x.friends(0, 1, 0), 8 + 6);
     }
 
     private static void friendsOfNoneAndTheMost() {
@@ -281,5 +283,10 @@ final class FriendsTest {
         ten.ask(2, 12);
         Given.ints(ten, 0, 1023, 1023);
         DUE.is("judge(0, 2) of ten", ten.judge(0, 2), -1);
+        // Nobody is RUNG up: WILL 0 is too little.
+        ThirdEvening none = Given.shy(3, 3);
+        Given.ints(none, 0, 0, 0);
+        DUE.is("judge(0, 2) of nobody who comes", none.judge(0, 2), -1);
+        DUE.is("friends(0, 2, 0) of nobody who comes", none.friends(0, 2, 0), 8 + 6);
     }
 }

@@ -281,6 +281,8 @@ final class SchoolTest {
         fault("bar 1;", 6);
         fault(";bar 1", 0);
         fault("bar 1;;bar 2", 6);
+        fault("bar 1;;x", 6);
+        fault("ba;bar x", 2);
         stands("bar 1;bar 2", 2);
         fault("bar 1,bar 2", 5);
         fault("bar 1bar 2", 5);
@@ -372,6 +374,11 @@ final class SchoolTest {
         fault(x, "gone 10", 5);
         fault(x, "gone 0 1", 6);
         fault(new ThirdEvening(), "gone 0", 5);
+        x.ask(1, 9);
+        x.ask(0, 20);
+        x.evenings(1);
+        stands(x, "gone 1", 1);
+        DUE.is("personOf(1, 5): MISSED stays", x.personOf(1, 5), 1);
         ThirdEvening ten = Given.people(0, 0, 10);
         stands(ten, "gone 9", 1);
         fault(ten, "gone 10", 5);

@@ -70,8 +70,13 @@ final class ShelvesTest {
         DUE.is("element(7, 2) of the newest", x.element(7, 2), 0);
         x.person(0, 0, 0, false);
         x.show(7, 0);
-        DUE.is("row(7, 1, 0) over a person", x.row(7, 1, 0), 1);
+        DUE.is("row(7, 1, 1) over a person", x.row(7, 1, 1), 1);
         DUE.is("holds(7)", x.holds(7), 101);
+        DUE.is("set(7, 0) of it", x.set(7, 0, 3), 1);
+        DUE.is("says(7, 0) of it", x.says(7, 0), -2);
+        x.show(7, 0);
+        DUE.is("set(7, 0) of a person over a ROW", x.set(7, 0, 3), -2);
+        DUE.is("element(7, 0) of a person over a ROW", x.element(7, 0), 0);
         x.row(6, 2, 1);
         x.set(6, 0, 4);
         x.row(7, 2, 1);

@@ -394,21 +394,27 @@ final class TruthTest {
             for (int i = count; i < 10; i++) {
                 x.person(6, 9, 20, true);
                 x.friend(i, 0);
-                x.go(i, true);
             }
+            // All have COMINGS, and but for number 0 are BEHIND and have MISSED, before they are no more.
+            x.ask(2, 12);
+            x.evenings(1);
+            x.ask(2, 1);
+            x.evenings(1);
+            Given.text(x, 0, 0, "bar 1");
+            x.school(0);
             DUE.is("restore() to " + count, x.restore(), count);
             DUE.is("status(0)", x.status(0), count);
             DUE.is("personOf behind the last", x.personOf(count, 0), -5);
             if (count < 10) {
+                Given.text(x, 0, 0, "person 1 2 3 0");
+                DUE.is("the next is new, by a text", x.school(0), 1);
+                isNew(x, count);
+                x.evenings(1);
+                x.restore();
                 DUE.is("the next is new", x.person(1, 2, 3, false), count);
-                int[] are = {1, 2, 3, 0, 0, 0, 0, 0};
-                for (int what = 0; what < 8; what++) {
-                    DUE.is("personOf(" + count + ", " + what + ")", x.personOf(count, what), are[what]);
-                }
-                DUE.is("his FRIEND", x.friend(count, -1), -1);
+                isNew(x, count);
             }
         }
-        // A restore() may bring back whom a later one has not.
         ThirdEvening y = Given.people(0, 0, 2);
         y.image();
         y.restore();
@@ -416,6 +422,14 @@ final class TruthTest {
         DUE.is("restore()", y.restore(), 2);
         DUE.is("EVENING", y.status(5), 0);
         DUE.is("COMINGS", y.status(7), 0);
+    }
+
+    private static void isNew(ThirdEvening x, int person) {
+        int[] are = {1, 2, 3, 0, 0, 0, 0, 0};
+        for (int what = 0; what < 8; what++) {
+            DUE.is("personOf(" + person + ", " + what + ")", x.personOf(person, what), are[what]);
+        }
+        DUE.is("his FRIEND", x.friend(person, -1), -1);
     }
 
     private static void restoreShelves() {
