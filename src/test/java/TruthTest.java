@@ -395,11 +395,14 @@ final class TruthTest {
                 x.person(6, 9, 20, true);
                 x.friend(i, 0);
             }
-            // All have COMINGS, and but for number 0 are BEHIND and have MISSED, before they are no more.
+            // All have COMINGS and are GONE, and but for number 0 are BEHIND and have MISSED, before they are no more.
             x.ask(2, 12);
             x.evenings(1);
             x.ask(2, 1);
             x.evenings(1);
+            for (int i = count; i < 10; i++) {
+                x.go(i, true);
+            }
             Given.text(x, 0, 0, "bar 1");
             x.school(0);
             DUE.is("restore() to " + count, x.restore(), count);
@@ -410,6 +413,7 @@ final class TruthTest {
                 DUE.is("the next is new, by a text", x.school(0), 1);
                 isNew(x, count);
                 x.evenings(1);
+                x.go(count, true);
                 x.restore();
                 DUE.is("the next is new", x.person(1, 2, 3, false), count);
                 isNew(x, count);
